@@ -351,7 +351,7 @@ public final class CommunityLevels {
             }
             long d = g.degree[node];
             long left = degree[from] - d;
-            long links = (long) link[c] - link[from];
+            long links = link[c] - link[from];
             return 4L * g.total * links - 2 * d * (degree[c] - left);
         }
 

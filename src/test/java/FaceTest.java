@@ -2,6 +2,7 @@ import java.lang.reflect.Constructor;
 import java.lang.reflect.Field;
 import java.lang.reflect.Method;
 import java.lang.reflect.Modifier;
+import java.util.List;
 import java.util.TreeSet;
 
 /** The public face is the document's, and nothing beside it can be seen. */
@@ -48,7 +49,7 @@ public final class FaceTest {
                 + names(m.getExceptionTypes(), " ", " "));
             Checks.same(m.getName() + " is public, and nothing else", m.getModifiers(), Modifier.PUBLIC);
         }
-        Checks.same("the methods", seen.toString(), new TreeSet<>(java.util.List.of(FACE)).toString());
+        Checks.same("the methods", seen.toString(), new TreeSet<>(List.of(FACE)).toString());
         privateNames.retainAll(publicNames);
         Checks.same("private methods with a public one's name", privateNames.toString(), "[]");
     }

@@ -6,35 +6,37 @@ final class Graphs {
     private Graphs() {
     }
 
-    /** Two triangles with an edge between them. */
-    static CommunityLevels triangles() {
+    /** So many nodes, and a weight for each three numbers. */
+    static CommunityLevels of(int n, int... weights) {
         CommunityLevels x = new CommunityLevels();
-        x.nodes(6);
-        x.weigh(0, 1, 1);
-        x.weigh(1, 2, 1);
-        x.weigh(0, 2, 1);
-        x.weigh(3, 4, 1);
-        x.weigh(4, 5, 1);
-        x.weigh(3, 5, 1);
-        x.weigh(2, 3, 1);
+        x.nodes(n);
+        for (int i = 0; i + 2 < weights.length; i += 3) {
+            x.weigh(weights[i], weights[i + 1], weights[i + 2]);
+        }
         return x;
     }
 
-    /** A star with a loop: on it a node leaves its community again for one of its own. */
-    static CommunityLevels leaver() {
-        CommunityLevels x = new CommunityLevels();
-        x.nodes(4);
-        x.weigh(0, 1, 1);
-        x.weigh(1, 2, 4);
-        x.weigh(1, 3, 4);
-        x.weigh(2, 2, 1);
+    /** Two triangles with an edge between them. */
+    static CommunityLevels triangles() {
+        return of(6, 0, 1, 1, 1, 2, 1, 0, 2, 1, 3, 4, 1, 4, 5, 1, 3, 5, 1, 2, 3, 1);
+    }
+
+    /** A star with a loop: on it node 2 leaves its community again for one of its own. */
+    static CommunityLevels leaver(int n) {
+        return of(n, 0, 1, 1, 1, 2, 4, 1, 3, 4, 2, 2, 1);
+    }
+
+    static CommunityLevels ring(int n) {
+        CommunityLevels x = of(n);
+        for (int i = 0; i < n; i++) {
+            x.weigh(i, (i + 1) % n, 1);
+        }
         return x;
     }
 
     /** Each node would rather be with the next one, so pass by pass all of them go on by one. */
     static CommunityLevels risingPath() {
-        CommunityLevels x = new CommunityLevels();
-        x.nodes(40);
+        CommunityLevels x = of(40);
         for (int i = 0; i < 39; i++) {
             x.weigh(i, i + 1, 1000 + 100 * i);
         }

@@ -151,16 +151,16 @@ public final class ModelTest {
     }
 
     public static void main(String[] args) {
-        for (int seed = 0; seed < 400; seed++) {
+        for (int seed = 0; seed < 1000; seed++) {
             new ModelTest(seed).mixed();
         }
-        for (int seed = 400; seed < 460; seed++) {
+        for (int seed = 1000; seed < 1060; seed++) {
             new ModelTest(seed).large();
         }
-        for (int seed = 460; seed < 466; seed++) {
+        for (int seed = 1060; seed < 1066; seed++) {
             new ModelTest(seed).rising();
         }
-        for (int seed = 466; seed < 472; seed++) {
+        for (int seed = 1066; seed < 1072; seed++) {
             new ModelTest(seed).ring();
         }
         System.out.println("moves into a new community " + fresh + ", with another number than the node's " + freshElsewhere

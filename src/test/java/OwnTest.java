@@ -20,11 +20,7 @@ public final class OwnTest {
     }
 
     private static void promise13Take() {
-        CommunityLevels x = new CommunityLevels();
-        x.nodes(16);
-        for (int i = 0; i < 16; i++) {
-            x.weigh(i, (i + 1) % 16, 1);
-        }
+        CommunityLevels x = Graphs.ring(16);
         x.run();
         for (int level = 0; level < 3; level++) {
             x.take(level);
@@ -54,16 +50,13 @@ public final class OwnTest {
         Checks.same("all together with a loop: own()", x.own(), 0);
         x.place(0, 2);
         Checks.same("the loop by itself: own()", x.own(), 40 * 3 - 64 + 40 * 5 - 144);
-        CommunityLevels empty = new CommunityLevels();
-        empty.nodes(3);
+        CommunityLevels empty = Graphs.of(3);
         empty.place(0, 1);
         Checks.same("M 0: own()", empty.own(), 0);
     }
 
     private static void promise14LargestNumbers() {
-        CommunityLevels x = new CommunityLevels();
-        x.nodes(2);
-        x.weigh(0, 1, 536870911);
+        CommunityLevels x = Graphs.of(2, 0, 1, 536870911);
         Checks.same("largest: own() apart", x.own(), -2L * 536870911L * 536870911L);
         Checks.same("largest: gain(0, 1)", x.gain(0, 1), 2L * 536870911L * 536870911L);
         x.place(0, 1);
@@ -86,17 +79,16 @@ public final class OwnTest {
         Checks.same("gain(0, 2)", x.gain(0, 2), -4);
         x.place(0, 3);
         x.place(3, 0);
-        Checks.same("gain of one alone into an empty one", x.gain(2, 1), -0L);
+        Checks.same("gain of one alone into an empty one", x.gain(2, 1), 0);
         Checks.same("gain leaves the partition", x.about(4, 2), 2);
-        CommunityLevels loops = Graphs.leaver();
+        CommunityLevels loops = Graphs.leaver(4);
         Checks.same("gain with a loop", loops.gain(2, 1), 40 * 4 - 2 * 6 * 9);
-        CommunityLevels empty = new CommunityLevels();
-        empty.nodes(2);
+        CommunityLevels empty = Graphs.of(2);
         Checks.same("M 0: gain(0, 1)", empty.gain(0, 1), 0);
     }
 
     private static void promise15GainIsTheDifference() {
-        CommunityLevels x = Graphs.leaver();
+        CommunityLevels x = Graphs.leaver(4);
         for (int node = 0; node < 4; node++) {
             for (int c = 0; c < 4; c++) {
                 long gain = x.gain(node, c);
@@ -109,7 +101,7 @@ public final class OwnTest {
     }
 
     private static void promise16About() {
-        CommunityLevels x = Graphs.leaver();
+        CommunityLevels x = Graphs.leaver(4);
         Checks.same("about(0, 0)", x.about(0, 0), 4);
         Checks.same("about(1, 0)", x.about(1, 0), 10);
         for (int i : WRONG) {

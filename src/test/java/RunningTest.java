@@ -1,4 +1,4 @@
-/** Promises 4 to 11: run and what is told of it; the answers are reckoned by hand. */
+/** Promises 4 to 11: run and what is told of it; the answers are reckoned by hand, but for 612. */
 public final class RunningTest {
     private static final int[] WRONG = {-1, 4, 5, Integer.MAX_VALUE, Integer.MIN_VALUE, 1 << 30};
 
@@ -39,30 +39,50 @@ public final class RunningTest {
 
     /** Node 2 leaves its community again; of the numbers 0, 1 and 2 that are free it takes 0. */
     private static void aNodeLeaves() {
-        CommunityLevels x = Graphs.leaver();
+        CommunityLevels x = Graphs.leaver(4);
         Checks.same("leaver: run()", x.run(), 2);
         movesAre(x, "0/0:0>1+22", "0/1:1>3+66", "0/2:2>3+4", "0/0:1>3+2", "0/2:3>0+8");
         levelIs(x, 0, "4 2 3 5", "0 0 1 0", 8);
         levelIs(x, 1, "2 2 1 0", "0 0 1 0", 8);
     }
 
+    /** To join node 4, which has no weights, would gain as much as to be alone, but is no choice. */
+    private static void aNodeWithoutWeightsIsNoChoice() {
+        CommunityLevels x = Graphs.leaver(5);
+        Checks.same("leaver of 5: run()", x.run(), 2);
+        movesAre(x, "0/0:0>1+22", "0/1:1>3+66", "0/2:2>3+4", "0/0:1>3+2", "0/2:3>0+8");
+        levelIs(x, 0, "5 3 3 5", "0 0 1 0 2", 8);
+        levelIs(x, 1, "3 3 1 0", "0 0 1 0 2", 8);
+    }
+
+    /** Node 1 leaves and is community 0 then; node 2 follows; at the end that community is 1. */
+    private static void aNodeLeavesAndAnotherFollows() {
+        CommunityLevels x = Graphs.of(4, 0, 3, 1, 1, 1, 1, 2, 0, 2, 1, 2, 3);
+        Checks.same("follower: run()", x.run(), 2);
+        movesAre(x, "0/0:0>2+26", "0/1:1>2+4", "0/3:3>2+2", "0/1:2>0+6", "0/2:2>0+18");
+        levelIs(x, 0, "4 2 3 5", "0 1 1 0", 24);
+        levelIs(x, 1, "2 2 1 0", "0 1 1 0", 24);
+    }
+
     private static void ofSeveralTheFirst() {
-        CommunityLevels x = new CommunityLevels();
-        x.nodes(3);
-        x.weigh(0, 1, 1);
-        x.weigh(0, 2, 1);
+        CommunityLevels x = Graphs.of(3, 0, 1, 1, 0, 2, 1);
         Checks.same("tie: run()", x.run(), 2);
         movesAre(x, "0/0:0>1+4", "0/2:2>1+2");
         levelIs(x, 0, "3 1 2 2", "0 0 0", 0);
         levelIs(x, 1, "1 1 1 0", "0 0 0", 0);
     }
 
+    /** At its second turn node 0 gains 24 both in community 2 and in a new one, which would be 0. */
+    private static void aNewOneIsTheLastOfSeveral() {
+        CommunityLevels x = Graphs.of(4, 0, 2, 2, 2, 2, 3, 0, 0, 1, 3, 0, 2, 1, 3, 4);
+        Checks.same("tie with a new one: run()", x.run(), 2);
+        movesAre(x, "0/0:0>3+24", "0/1:1>3+96", "0/0:3>2+24");
+        levelIs(x, 0, "4 2 3 3", "0 1 0 1", 184);
+        levelIs(x, 1, "2 2 1 0", "0 1 0 1", 184);
+    }
+
     private static void aGainOf0IsNoMove() {
-        CommunityLevels x = new CommunityLevels();
-        x.nodes(2);
-        x.weigh(0, 1, 2);
-        x.weigh(0, 0, 1);
-        x.weigh(1, 1, 1);
+        CommunityLevels x = Graphs.of(2, 0, 1, 2, 0, 0, 1, 1, 1, 1);
         Checks.same("gain 0: gain(0, 1)", x.gain(0, 1), 0);
         Checks.same("gain 0: run()", x.run(), 1);
         movesAre(x);
@@ -72,9 +92,19 @@ public final class RunningTest {
         movesAre(x, "0/0:0>1+10");
     }
 
+    /** Node 0 would gain 0 by itself, in the second pass. */
+    private static void toLeaveForAGainOf0IsNoMove() {
+        CommunityLevels x = Graphs.of(4, 2, 3, 4, 3, 0, 4, 0, 0, 1);
+        Checks.same("leave for 0: run()", x.run(), 2);
+        movesAre(x, "0/0:0>3+48", "0/2:2>3+32");
+        levelIs(x, 0, "4 2 2 2", "0 1 0 0", 0);
+        levelIs(x, 1, "2 2 1 0", "0 1 0 0", 0);
+        x.take(0);
+        Checks.same("leave for 0: gain(0, 2)", x.gain(0, 2), 0);
+    }
+
     private static void withoutWeights() {
-        CommunityLevels x = new CommunityLevels();
-        x.nodes(4);
+        CommunityLevels x = Graphs.of(4);
         Checks.same("no weights: run()", x.run(), 1);
         movesAre(x);
         levelIs(x, 0, "4 4 1 0", "0 1 2 3", 0);
@@ -85,11 +115,7 @@ public final class RunningTest {
 
     /** A ring: pairs, then pairs of pairs; there are moves on the second level too. */
     private static void severalLevels() {
-        CommunityLevels x = new CommunityLevels();
-        x.nodes(16);
-        for (int i = 0; i < 16; i++) {
-            x.weigh(i, (i + 1) % 16, 1);
-        }
+        CommunityLevels x = Graphs.ring(16);
         Checks.same("ring: run()", x.run(), 3);
         levelIs(x, 0, "16 8 2 8", "0 0 1 1 2 2 3 3 4 4 5 5 6 6 7 7", 384);
         levelIs(x, 1, "8 4 2 4", "0 0 0 0 1 1 1 1 2 2 2 2 3 3 3 3", 512);
@@ -98,6 +124,7 @@ public final class RunningTest {
             "0/12:12>13+56", "0/14:14>15+56", "1/0:0>1+32", "1/2:2>3+32", "1/4:4>5+32", "1/6:6>7+32");
     }
 
+    /** How many moves there are, 612, is what PlainModel answers. */
     private static void moreThan400Moves() {
         CommunityLevels x = Graphs.risingPath();
         Checks.same("rising: run()", x.run(), 3);
@@ -122,13 +149,16 @@ public final class RunningTest {
     }
 
     private static void promise4RunTwice() {
-        CommunityLevels x = Graphs.leaver();
+        CommunityLevels x = Graphs.leaver(4);
         x.place(0, 2);
         x.run();
         String once = Graphs.all(x);
         Checks.same("run() twice", x.run(), 2);
         Checks.same("all after run() twice", Graphs.all(x), once);
         Checks.same("run() leaves one's own partition", x.about(4, 0), 2);
+        x.weigh(1, 2, 4);
+        Checks.same("run() anew", x.run(), 2);
+        Checks.same("all after run() anew", Graphs.all(x), once);
     }
 
     private static void notRun() {
@@ -166,8 +196,12 @@ public final class RunningTest {
     public static void main(String[] args) {
         twoTriangles();
         aNodeLeaves();
+        aNodeWithoutWeightsIsNoChoice();
+        aNodeLeavesAndAnotherFollows();
         ofSeveralTheFirst();
+        aNewOneIsTheLastOfSeveral();
         aGainOf0IsNoMove();
+        toLeaveForAGainOf0IsNoMove();
         withoutWeights();
         severalLevels();
         moreThan400Moves();

@@ -1,3 +1,5 @@
+import java.util.Arrays;
+
 /** Promises 1 to 3: a new object, nodes, weigh. */
 public final class SettingTest {
     private SettingTest() {
@@ -26,8 +28,7 @@ public final class SettingTest {
         x.run();
         x.place(2, 5);
         x.nodes(6);
-        CommunityLevels fresh = new CommunityLevels();
-        fresh.nodes(6);
+        CommunityLevels fresh = Graphs.of(6);
         Checks.same("nodes(6) anew", Graphs.all(x), Graphs.all(fresh));
         Checks.same("nodes(6): the old weight", x.weigh(0, 1, 3), 0);
         for (int i = 0; i < 6; i++) {
@@ -63,8 +64,7 @@ public final class SettingTest {
     }
 
     private static void promise3WeighAnswersWhatItWas() {
-        CommunityLevels x = new CommunityLevels();
-        x.nodes(3);
+        CommunityLevels x = Graphs.of(3);
         Checks.same("weigh(0, 1, 5)", x.weigh(0, 1, 5), 0);
         Checks.same("weigh(1, 0, 7)", x.weigh(1, 0, 7), 5);
         Checks.same("weigh(0, 1, 7)", x.weigh(0, 1, 7), 7);
@@ -94,8 +94,7 @@ public final class SettingTest {
     }
 
     private static void promise3MIsBelow2To29() {
-        CommunityLevels x = new CommunityLevels();
-        x.nodes(2);
+        CommunityLevels x = Graphs.of(2);
         Checks.noArgument("weigh(0, 1, 2^29)", () -> x.weigh(0, 1, 536870912));
         Checks.same("weigh(0, 1, 2^29 - 1)", x.weigh(0, 1, 536870911), 0);
         Checks.noArgument("one more", () -> x.weigh(0, 0, 1));
@@ -118,8 +117,8 @@ public final class SettingTest {
             CommunityLevels x = Graphs.triangles();
             x.run();
             String before = Graphs.all(x);
-            Checks.noIndex("weigh" + java.util.Arrays.toString(w), () -> x.weigh(w[0], w[1], w[2]));
-            Checks.same("after weigh" + java.util.Arrays.toString(w), Graphs.all(x), before);
+            Checks.noIndex("weigh" + Arrays.toString(w), () -> x.weigh(w[0], w[1], w[2]));
+            Checks.same("after weigh" + Arrays.toString(w), Graphs.all(x), before);
         }
         int[] noWeight = {-1, Integer.MIN_VALUE, 1 << 29, Integer.MAX_VALUE, (1 << 29) - 6};
         for (int w : noWeight) {
