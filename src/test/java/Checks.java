@@ -9,8 +9,14 @@ final class Checks {
     }
 
     private static int wrong = 0;
+    private static String place = "";
 
     private Checks() {
+    }
+
+    /** Wrong answers from here on are told as those of this place. */
+    static void at(String where) {
+        place = where + ": ";
     }
 
     static void same(String call, long got, long due) {
@@ -59,6 +65,6 @@ final class Checks {
 
     private static void report(String call, String got, String due) {
         wrong++;
-        System.out.println(call + " answered " + got + ", due is " + due);
+        System.out.println(place + call + " answered " + got + ", due is " + due);
     }
 }

@@ -1,7 +1,13 @@
-/** Graphs on which several tests work, and all that an object tells, as one text. */
+/** Graphs on which several tests work. */
 final class Graphs {
     static final int[] EDGES = {-2, -1, 0, 1, 2, 3, 4, 5, 6, 39, 40, 41, 399, 400, 401,
         Integer.MAX_VALUE, Integer.MIN_VALUE, 1 << 29, (1 << 29) - 1};
+
+    /** Far outside all numbers; in int, four or forty times some of them is 0 again. */
+    static final int[] FAR = {Integer.MIN_VALUE, Integer.MAX_VALUE, 1 << 28, 1 << 29, 1 << 30, -(1 << 29), -(1 << 30)};
+
+    /** The greatest sum of all weights. */
+    static final int MOST_M = 536870911;
 
     private Graphs() {
     }
@@ -35,48 +41,44 @@ final class Graphs {
     }
 
     /** Each node would rather be with the next one, so pass by pass all of them go on by one. */
-    static CommunityLevels risingPath() {
-        CommunityLevels x = of(40);
-        for (int i = 0; i < 39; i++) {
-            x.weigh(i, i + 1, 1000 + 100 * i);
+    static CommunityLevels rising(int n, int base, int step) {
+        CommunityLevels x = of(n);
+        for (int i = 0; i < n - 1; i++) {
+            x.weigh(i, i + 1, base + step * i);
         }
         return x;
     }
 
-    static String all(CommunityLevels x) {
-        StringBuilder text = new StringBuilder();
-        int n = x.about(0, 0);
-        text.append("N ").append(n).append(" M ").append(x.about(1, 0));
-        for (int i = 0; i < n; i++) {
-            text.append(" d").append(x.about(2, i)).append(" l").append(x.about(3, i)).append(" c").append(x.about(4, i));
-            for (int c = 0; c < n; c++) {
-                text.append(" g").append(x.gain(i, c));
-            }
+    /** Node 0 has a weight of 1 with each other: all go into one community, 39 moves of 40 nodes. */
+    static CommunityLevels star(int n) {
+        CommunityLevels x = of(n);
+        for (int i = 1; i < n; i++) {
+            x.weigh(0, i, 1);
         }
-        text.append(" own ").append(x.own()).append(' ').append(ran(x));
-        return text.toString();
+        return x;
     }
 
-    private static String ran(CommunityLevels x) {
-        StringBuilder text = new StringBuilder();
-        text.append("levels ").append(x.levels());
-        for (int l = 0; l < x.levels(); l++) {
-            text.append(" u").append(x.modularity(l));
-            for (int what = 0; what < 4; what++) {
-                text.append(' ').append(x.level(l, what));
-            }
-            for (int i = 0; i < x.about(0, 0); i++) {
-                text.append(" c").append(x.community(l, i));
-            }
+    /** A loop of the same weight for each of 40 nodes: no U is greater. */
+    static CommunityLevels loops(int w) {
+        CommunityLevels x = of(40);
+        for (int i = 0; i < 40; i++) {
+            x.weigh(i, i, w);
         }
-        text.append(" moves ").append(x.moves());
-        for (int k = 0; k < Math.min(400, x.moves()); k++) {
-            text.append(' ').append(moveText(x, k));
-        }
-        return text.toString();
+        return x;
     }
 
-    static String moveText(CommunityLevels x, int k) {
-        return x.move(k, 0) + "/" + x.move(k, 1) + ":" + x.move(k, 2) + ">" + x.move(k, 3) + "+" + x.gained(k);
+    /**
+     * Of 32 nodes each two have a weight, the greater the sooner they are in the same half of a
+     * half: pairs, fours, eights and so on, one level for each. 497 calls.
+     */
+    static CommunityLevels halves() {
+        int[] weights = {320, 272, 252, 244, 241};
+        CommunityLevels x = of(32);
+        for (int a = 0; a < 32; a++) {
+            for (int b = a + 1; b < 32; b++) {
+                x.weigh(a, b, weights[31 - Integer.numberOfLeadingZeros(a ^ b)]);
+            }
+        }
+        return x;
     }
 }

@@ -120,7 +120,7 @@ public final class OwnTest {
         CommunityLevels x = Graphs.triangles();
         x.run();
         x.take(0);
-        String before = Graphs.all(x);
+        String before = Told.all(x);
         for (int i : WRONG) {
             Checks.noIndex("place(" + i + ", 0)", () -> x.place(i, 0));
             Checks.noIndex("place(0, " + i + ")", () -> x.place(0, i));
@@ -136,7 +136,7 @@ public final class OwnTest {
             Checks.noIndex("about(" + what + ", 0)", () -> x.about(what, 0));
         }
         Checks.noIndex("take(2)", Checks.of(() -> x.take(2)));
-        Checks.same("all after wrong indexes", Graphs.all(x), before);
+        Checks.same("all after wrong indexes", Told.all(x), before);
     }
 
     public static void main(String[] args) {

@@ -29,7 +29,7 @@ public final class SettingTest {
         x.place(2, 5);
         x.nodes(6);
         CommunityLevels fresh = Graphs.of(6);
-        Checks.same("nodes(6) anew", Graphs.all(x), Graphs.all(fresh));
+        Checks.same("nodes(6) anew", Told.all(x), Told.all(fresh));
         Checks.same("nodes(6): the old weight", x.weigh(0, 1, 3), 0);
         for (int i = 0; i < 6; i++) {
             Checks.same("nodes(6): own community of " + i, x.about(4, i), i);
@@ -57,9 +57,9 @@ public final class SettingTest {
         for (int n : wrong) {
             CommunityLevels x = Graphs.triangles();
             x.run();
-            String before = Graphs.all(x);
+            String before = Told.all(x);
             Checks.noArgument("nodes(" + n + ")", Checks.of(() -> x.nodes(n)));
-            Checks.same("after nodes(" + n + ")", Graphs.all(x), before);
+            Checks.same("after nodes(" + n + ")", Told.all(x), before);
         }
     }
 
@@ -116,17 +116,17 @@ public final class SettingTest {
         for (int[] w : noNode) {
             CommunityLevels x = Graphs.triangles();
             x.run();
-            String before = Graphs.all(x);
+            String before = Told.all(x);
             Checks.noIndex("weigh" + Arrays.toString(w), () -> x.weigh(w[0], w[1], w[2]));
-            Checks.same("after weigh" + Arrays.toString(w), Graphs.all(x), before);
+            Checks.same("after weigh" + Arrays.toString(w), Told.all(x), before);
         }
         int[] noWeight = {-1, Integer.MIN_VALUE, 1 << 29, Integer.MAX_VALUE, (1 << 29) - 6};
         for (int w : noWeight) {
             CommunityLevels x = Graphs.triangles();
             x.run();
-            String before = Graphs.all(x);
+            String before = Told.all(x);
             Checks.noArgument("weigh(0, 1, " + w + ")", () -> x.weigh(0, 1, w));
-            Checks.same("after weigh(0, 1, " + w + ")", Graphs.all(x), before);
+            Checks.same("after weigh(0, 1, " + w + ")", Told.all(x), before);
         }
     }
 
