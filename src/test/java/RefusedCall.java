@@ -2,7 +2,22 @@ import java.util.function.ToLongFunction;
 
 /** A call that throws in every state, and the check that the object is then as one without it. */
 record RefusedCall(String name, boolean isIndex, ToLongFunction<CommunityLevels> call) {
-    static final int STATES = 4;
+    enum State {
+        NEW, NOT_RUN, RUN, RUN_WITHOUT_WEIGHTS;
+
+        CommunityLevels make() {
+            if (this == NEW) {
+                return new CommunityLevels();
+            }
+            CommunityLevels x = this == RUN_WITHOUT_WEIGHTS ? Graphs.of(6) : Graphs.triangles();
+            if (this != NOT_RUN) {
+                x.run();
+                x.take(0);
+            }
+            x.place(5, 4);
+            return x;
+        }
+    }
 
     static final RefusedCall[] ALL = {
         argument("nodes(0)", x -> nodes(x, 0)),
@@ -47,30 +62,15 @@ record RefusedCall(String name, boolean isIndex, ToLongFunction<CommunityLevels>
         return 0;
     }
 
-    private static CommunityLevels inState(int state) {
-        if (state == 0) {
-            return new CommunityLevels();
-        }
-        CommunityLevels x = state == 1 ? Graphs.of(6) : Graphs.triangles();
-        if (state == 2) {
-            x.place(2, 5);
-            return x;
-        }
-        x.run();
-        x.take(0);
-        x.place(5, state == 1 ? 0 : 4);
-        return x;
-    }
-
-    void check(int state) {
-        CommunityLevels x = inState(state);
-        String call = name + " in state " + state;
+    void check(State state) {
+        CommunityLevels x = state.make();
+        String call = name + " when " + state;
         if (isIndex) {
             Checks.noIndex(call, () -> this.call.applyAsLong(x));
         } else {
             Checks.noArgument(call, () -> this.call.applyAsLong(x));
         }
-        CommunityLevels same = inState(state);
+        CommunityLevels same = state.make();
         Checks.same("all after " + call, Told.all(x), Told.all(same));
         Checks.same("weights after " + call, Told.weightsTakenOut(x), Told.weightsTakenOut(same));
     }

@@ -175,7 +175,7 @@ final class TermsBoundaries {
     private void aCallThatThrowsChangesNothing() {
         document.hold("Terms", THROWS);
         for (RefusedCall refused : RefusedCall.ALL) {
-            for (int state = 0; state < RefusedCall.STATES; state++) {
+            for (RefusedCall.State state : RefusedCall.State.values()) {
                 refused.check(state);
             }
         }
