@@ -1,5 +1,4 @@
 import java.io.IOException;
-import java.nio.file.Path;
 
 /** Every boundary case that the document names, each told with its promise and sentence. */
 public final class BoundaryTest {
@@ -7,7 +6,8 @@ public final class BoundaryTest {
     }
 
     public static void main(String[] args) throws IOException {
-        Sentences document = new Sentences(Path.of(System.getProperty("document", "../shared/DOC.md")));
+        Sentences document = new Sentences(Face.document());
+        new OverviewBoundaries(document).all();
         new TermsBoundaries(document).all();
         new LevelBoundaries(document).all();
         new SettingBoundaries(document).all();

@@ -6,7 +6,8 @@ import java.util.Set;
 
 /**
  * The sentences of the document, each written with its section before it. A test says which one it
- * holds the class to: that one must stand there, and none of the terms and promises may be left.
+ * holds the class to: that one must stand there, and none of "What it is", the terms and the
+ * promises may be left. (FaceTest reads the face; the rest is "Not promised".)
  */
 final class Sentences {
     private final Set<String> written = new LinkedHashSet<>();
@@ -44,7 +45,7 @@ final class Sentences {
 
     void end() {
         for (String name : written) {
-            if (name.startsWith("Terms") || name.startsWith("Promise")) {
+            if (name.startsWith("What it is") || name.startsWith("Terms") || name.startsWith("Promise")) {
                 Checks.at(name);
                 Checks.same("has it a test", held.contains(name) ? "yes" : "no", "yes");
             }

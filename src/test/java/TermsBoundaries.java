@@ -20,21 +20,6 @@ final class TermsBoundaries {
         this.document = document;
     }
 
-    /** The dearest calls there are, and the 512th of them is answered as the first one. */
-    private void call512() {
-        document.hold("What it is", "An object is used for at most 512 calls after it has been made; what later calls answer"
-            + " is free.");
-        CommunityLevels x = Graphs.rising(40, 1000, 100);
-        int calls = 40;
-        for (; calls < 510; calls += 2) {
-            x.weigh(38, 39, 4800);
-            x.run();
-        }
-        Checks.same("call 511: run()", x.run(), 3);
-        Checks.same("call 512: moves()", x.moves(), 612);
-        Checks.same("so many calls before these", calls, 510);
-    }
-
     private void oneNode() {
         document.hold("Terms", NODES);
         CommunityLevels x = Graphs.of(1);
@@ -182,7 +167,6 @@ final class TermsBoundaries {
     }
 
     void all() {
-        call512();
         oneNode();
         fortyNodes();
         eachWeightAtFirst0();
