@@ -12,7 +12,7 @@ public final class CommunityLevels {
     private static final int FACTS = 4;
     private static final int TOTAL_END = 1 << 29;
 
-    /** Every move raises U, so passes end by themselves, some tens of them; this is far above. */
+    /** Every move raises U, so passes end; a search for many of them found 178, far below this. */
     private static final int MOST_PASSES = 1000000;
 
     private final Graph told;

@@ -11,6 +11,13 @@ final class LevelBoundaries {
         + " of two are the sums of those between their NODES, LOOPS their I.";
     private static final String LAST_LEVEL = "Otherwise it was the last LEVEL.";
 
+    /** A search for many passes found this one, 39 nodes; how many there are is what PlainModel answers. */
+    private static final int[] LONG = {37, 3, 1233627, 33, 32, 485140, 29, 1, 2524, 1, 0, 3253, 1, 3, 456401, 6, 6, 25461,
+        6, 7, 1011, 7, 8, 1016, 8, 9, 1030, 9, 10, 1242, 10, 11, 1353, 11, 12, 1552, 12, 13, 1553, 13, 14, 1664, 14, 15, 1680,
+        15, 16, 1680, 16, 17, 1791, 17, 18, 1924, 18, 19, 1898, 19, 20, 2168, 20, 21, 2127, 21, 22, 2156, 22, 23, 2104,
+        23, 24, 2109, 24, 25, 2035, 25, 26, 2114, 26, 27, 2115, 27, 28, 2556, 28, 29, 2529, 29, 30, 2541, 30, 31, 2498,
+        31, 32, 2528, 32, 33, 2485, 33, 34, 2564, 34, 35, 2566, 35, 36, 2869, 36, 4, 2794, 4, 5, 3131};
+
     private final Sentences document;
 
     LevelBoundaries(Sentences document) {
@@ -219,6 +226,23 @@ final class LevelBoundaries {
         Checks.same("passes with 39 moves and none", x.level(0, 2), 2);
     }
 
+    private void manyPasses() {
+        document.hold("Terms", LAST_PASS);
+        CommunityLevels x = Graphs.of(39, LONG);
+        PlainModel plain = new PlainModel();
+        plain.nodes(39);
+        for (int i = 0; i < LONG.length; i += 3) {
+            plain.weigh(LONG[i], LONG[i + 1], LONG[i + 2]);
+        }
+        Checks.same("run()", x.run(), plain.run());
+        for (int level = 0; level < plain.levels(); level++) {
+            Checks.same("passes of level " + level, x.level(level, 2), plain.level(level, 2));
+            Checks.same("moves of level " + level, x.level(level, 3), plain.level(level, 3));
+            Checks.same("modularity(" + level + ")", x.modularity(level), plain.modularity(level));
+        }
+        Checks.same("passes of level 0", x.level(0, 2), 178);
+    }
+
     /** 3 is numbered 1 then, and 1 is numbered 2. */
     private void numbersByLeastNodes() {
         document.hold("Terms", NUMBERED);
@@ -318,6 +342,7 @@ final class LevelBoundaries {
         aFirstPassWithoutAMove();
         aPassWithOneMoveIsNotTheLast();
         aMoveOfTheLastNodeIsOneOfThePass();
+        manyPasses();
         numbersByLeastNodes();
         numbersFrom0On();
         aNextLevelOfOneNode();
